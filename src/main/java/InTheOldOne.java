@@ -43,8 +43,9 @@ public final class InTheOldOne {
         for (int i = 0; i < FIRST_RULE.length(); i++) {
             tape.add(FIRST_RULE.charAt(i));
         }
-        tape.readInto(texts[0]);
+        tape.read();
         tape.clear();
+        texts[0].become(tape.rule);
     }
 
     // ---- disks, files
@@ -114,11 +115,12 @@ public final class InTheOldOne {
         if (textCount >= TEXTS) {
             return FULL;
         }
-        int fault = tape.readInto(texts[textCount]);
+        int fault = tape.read();
         tape.clear();
         if (fault != NONE) {
             return FAULT_BASE - fault;
         }
+        texts[textCount].become(tape.rule);
         textCount++;
         return textCount - 1;
     }
@@ -556,8 +558,12 @@ public final class InTheOldOne {
         if ((needed & ~thought.safe(k)) == 0) {
             return true;
         }
-        // A copy brings a FILE onto one more DISK at most: who lacks more than are left can't be helped.
-        if (left < 1 || left > MOST_COPIES || (needed & ~thought.safe(k - left)) != 0) {
+        if (left < 1 || left > MOST_COPIES) {
+            return false;
+        }
+        // A copy brings a FILE onto one more DISK at most: what lacks more than are left can't be helped,
+        // and what lacks as many must come by each.
+        if ((needed & ~thought.safe(k - left)) != 0) {
             return false;
         }
         int urgent = needed & ~thought.safe(k - left + 1);
@@ -809,6 +815,7 @@ public final class InTheOldOne {
     // ---- a disk, and all disks
 
     private static final class Disk {
+        /** There from the first on, so that it is never missing. */
         DiskKind kind = new DiskKind(0);
         int number;
         int since;
@@ -984,17 +991,15 @@ public final class InTheOldOne {
             Disk onto = disks[other];
             int came = 0;
             for (int file = 0; file < FILES; file++) {
-                if (isIn(from.held, file) && onto.takesIn(file) && givesWay(from, onto, file, by)) {
-                    onto.put(file, from.contents[file], from.stamps[file]);
-                    came++;
+                if (isIn(from.held, file) && onto.takesIn(file)) {
+                    int same = from.contents[file] == onto.contents[file] ? 1 : 0;
+                    if (by.takes(onto.stamps[file], from.stamps[file], same, onto.number, file, day)) {
+                        onto.put(file, from.contents[file], from.stamps[file]);
+                        came++;
+                    }
                 }
             }
             return came;
-        }
-
-        boolean givesWay(Disk from, Disk onto, int file, Rule by) {
-            int same = from.contents[file] == onto.contents[file] ? 1 : 0;
-            return by.takes(onto.stamps[file], from.stamps[file], same, onto.number, file, day);
         }
     }
 
@@ -1017,6 +1022,12 @@ public final class InTheOldOne {
 
         void clear() {
             size = 0;
+        }
+
+        void become(Rule other) {
+            size = other.size;
+            System.arraycopy(other.steps, 0, steps, 0, TAPE_SIZE);
+            System.arraycopy(other.ends, 0, ends, 0, PARTS);
         }
 
         void add(int step) {
@@ -1065,7 +1076,7 @@ public final class InTheOldOne {
         int answer(int part) {
             top = 0;
             int from = part == 0 ? 0 : ends[part - 1];
-            for (int i = from; i < ends[part]; i++) {
+            for (int i = from; i < ends[part] && i < steps.length; i++) {
                 int step = steps[i];
                 if (step >= 0) {
                     push(step);
@@ -1090,31 +1101,29 @@ public final class InTheOldOne {
         void turnTop(int step) {
             if (top > 0) {
                 int value = stack[top - 1];
-                stack[top - 1] = step == NEGATE ? -value : truth(value == 0);
+                int denied = value == 0 ? 1 : 0;
+                stack[top - 1] = step == NEGATE ? -value : denied;
             }
         }
 
         void joinTwo(int step) {
-            if (top > 1) {
-                top--;
-                stack[top - 1] = joined(step, stack[top - 1], stack[top]);
+            if (top < 2) {
+                return;
             }
-        }
-
-        static int joined(int step, int a, int b) {
+            int a = stack[top - 2];
+            int b = stack[top - 1];
+            int joined;
             switch (step) {
-                case TIMES: return a * b;
-                case PLUS: return a + b;
-                case MINUS: return a - b;
-                case LESS: return truth(a < b);
-                case LIKE: return truth(a == b);
-                case BOTH: return truth(a != 0 && b != 0);
-                default: return truth(a != 0 || b != 0);
+                case TIMES: joined = a * b; break;
+                case PLUS: joined = a + b; break;
+                case MINUS: joined = a - b; break;
+                case LESS: joined = a < b ? 1 : 0; break;
+                case LIKE: joined = a == b ? 1 : 0; break;
+                case BOTH: joined = a != 0 && b != 0 ? 1 : 0; break;
+                default: joined = a != 0 || b != 0 ? 1 : 0; break;
             }
-        }
-
-        static int truth(boolean is) {
-            return is ? 1 : 0;
+            top--;
+            stack[top - 1] = joined;
         }
     }
 
@@ -1125,14 +1134,17 @@ public final class InTheOldOne {
         static final int END = 0, WRONG = 1, NUMBER = 2, NAME = 3;
         static final int TAKES = 4, OR = 7, AND = 8, NOT = 9, KEYS = 6;
         static final int MOST_DIGITS = 4, MOST_OPEN = 5;
+        /** The levels of an E, from what holds least together to a ONE. */
+        static final int EITHER = 0, BOTH = 1, COMPARED = 2, SUM = 3, TERM = 4, ONE = 5;
 
         final int[] bytes = new int[TAPE_SIZE];
+        /** What was read last, whole if there was no FAULT. */
+        final Rule rule = new Rule();
         int size;
         int place;
         int next;
         int token;
         int value;
-        Rule rule = new Rule();
 
         boolean add(int letter) {
             if (size >= bytes.length) {
@@ -1148,8 +1160,7 @@ public final class InTheOldOne {
         }
 
         /** The place of the FAULT; NONE. */
-        int readInto(Rule into) {
-            rule = into;
+        int read() {
             rule.clear();
             next = 0;
             advance();
@@ -1158,7 +1169,7 @@ public final class InTheOldOne {
                     return place;
                 }
                 advance();
-                if (!readEither(0) || token != ';') {
+                if (!readLevel(EITHER, 0) || token != ';') {
                     return place;
                 }
                 rule.endPart(part);
@@ -1167,68 +1178,32 @@ public final class InTheOldOne {
             return token == END ? NONE : place;
         }
 
-        private boolean readEither(int open) {
-            boolean fine = readBoth(open);
-            for (int turn = 0; turn < TAPE_SIZE && fine && token == OR; turn++) {
-                advance();
-                fine = readBoth(open);
-                rule.add(Rule.EITHER);
+        /** Reads what stands on a level while so many of ( not - are open; false: a FAULT. */
+        private boolean readLevel(int level, int open) {
+            if (level >= ONE) {
+                return readOne(open);
             }
-            return fine;
-        }
-
-        private boolean readBoth(int open) {
-            boolean fine = readDenied(open);
-            for (int turn = 0; turn < TAPE_SIZE && fine && token == AND; turn++) {
+            if (level == COMPARED && token == NOT) {
+                return readDenied(open);
+            }
+            boolean fine = readLevel(level + 1, open);
+            int most = level == COMPARED ? 1 : TAPE_SIZE;
+            for (int turn = 0; turn < most && fine && stepOn(level) != NONE; turn++) {
+                int step = stepOn(level);
                 advance();
-                fine = readDenied(open);
-                rule.add(Rule.BOTH);
+                fine = readLevel(level + 1, open);
+                rule.add(step);
             }
             return fine;
         }
 
         private boolean readDenied(int open) {
-            if (token != NOT) {
-                return readCompared(open);
-            }
             if (open >= MOST_OPEN) {
                 return false;
             }
             advance();
-            boolean fine = readDenied(open + 1);
+            boolean fine = readLevel(COMPARED, open + 1);
             rule.add(Rule.DENY);
-            return fine;
-        }
-
-        private boolean readCompared(int open) {
-            boolean fine = readSum(open);
-            if (fine && (token == '<' || token == '=')) {
-                int step = token == '<' ? Rule.LESS : Rule.LIKE;
-                advance();
-                fine = readSum(open);
-                rule.add(step);
-            }
-            return fine;
-        }
-
-        private boolean readSum(int open) {
-            boolean fine = readTerm(open);
-            for (int turn = 0; turn < TAPE_SIZE && fine && (token == '+' || token == '-'); turn++) {
-                int step = token == '+' ? Rule.PLUS : Rule.MINUS;
-                advance();
-                fine = readTerm(open);
-                rule.add(step);
-            }
-            return fine;
-        }
-
-        private boolean readTerm(int open) {
-            boolean fine = readOne(open);
-            for (int turn = 0; turn < TAPE_SIZE && fine && token == '*'; turn++) {
-                advance();
-                fine = readOne(open);
-                rule.add(Rule.TIMES);
-            }
             return fine;
         }
 
@@ -1241,18 +1216,32 @@ public final class InTheOldOne {
             if (token != '(' && token != '-' || open >= MOST_OPEN) {
                 return false;
             }
-            if (token == '-') {
-                advance();
+            boolean bracket = token == '(';
+            advance();
+            if (!bracket) {
                 boolean fine = readOne(open + 1);
                 rule.add(Rule.NEGATE);
                 return fine;
             }
-            advance();
-            if (!readEither(open + 1) || token != ')') {
+            if (!readLevel(EITHER, open + 1) || token != ')') {
                 return false;
             }
             advance();
             return true;
+        }
+
+        /** The step by which the TOKEN joins two of what a level is made of; NONE: it joins none there. */
+        private int stepOn(int level) {
+            switch (token) {
+                case OR: return level == EITHER ? Rule.EITHER : NONE;
+                case AND: return level == BOTH ? Rule.BOTH : NONE;
+                case '<': return level == COMPARED ? Rule.LESS : NONE;
+                case '=': return level == COMPARED ? Rule.LIKE : NONE;
+                case '+': return level == SUM ? Rule.PLUS : NONE;
+                case '-': return level == SUM ? Rule.MINUS : NONE;
+                case '*': return level == TERM ? Rule.TIMES : NONE;
+                default: return NONE;
+            }
         }
 
         private void advance() {

@@ -54,6 +54,22 @@ public final class BestTest {
     y.set(2, 0, 301);
     Due.due("best(2, 0), the other doesn't read", y.best(2, 0), -1);
     Due.due("best(2, 1)", y.best(2, 1), 0);
+    y.disk(2, 0);
+    Due.due("best(2, 0), a third does", y.best(2, 0), 2);
+    y.set(2, 0, 0);
+    Due.due("best(1, 0), the one doesn't read", y.best(1, 0), -1);
+    Due.due("best(1, 1), the one doesn't read", y.best(1, 1), 0);
+    InTheOldOne z = laidOut(6, 3);
+    z.write(5, 7, 1);
+    z.write(5, 6, 1);
+    z.write(5, 5, 1);
+    z.write(5, 4, 1);
+    Due.due("best(2, 0), from the last", z.best(2, 0), 50);
+    z.lose(0, 0);
+    z.lose(0, 1);
+    z.lose(0, 2);
+    Due.due("worst(0), the last", z.worst(0), 5);
+    Due.due("letGo(), the first", z.letGo(), 0);
   }
 
   private static void fewest() {
@@ -99,6 +115,17 @@ public final class BestTest {
     x.set(0, 0, 21);
     Due.due("fewest(2), the CARDS are gone", x.fewest(2), -1);
     Due.due("fewest(1)", x.fewest(1), 0);
+    // What doesn't READ can't be the one: DISK 2 would bring both at once.
+    InTheOldOne y = laidOut(2, 1);
+    y.disk(0, 0);
+    y.disk(2, 0);
+    y.write(1, 1, 1);
+    y.write(2, 0, 1);
+    y.write(2, 1, 1);
+    y.set(0, 0, 301);
+    Due.due("fewest(2), a disk with both doesn't read", y.fewest(2), 2);
+    y.set(2, 2, 301);
+    Due.due("fewest(3), it reads", y.fewest(3), 1);
     // What is LOST need not be SAFE.
     x.lose(0, 0);
     x.lose(0, 1);
@@ -270,6 +297,8 @@ public final class BestTest {
     Due.due("plan(0, 0), not by twos", x.plan(0, 0), -2);
     Due.sheet(x, 0, 2, 0, 0, 0, 2);
     Due.due("plan(0, 0), no such disk behind", x.plan(0, 0), -2);
+    Due.sheet(x, 0, 2, 2, 0);
+    Due.due("plan(0, 0), no such disk ahead", x.plan(0, 0), -2);
     Due.sheet(x, 0, 2, 0, -1);
     Due.due("plan(0, 0), disk -1", x.plan(0, 0), -2);
   }

@@ -197,10 +197,13 @@ public final class CopyingTest {
     Due.due("on(8)", x.on(8), -2);
     Due.due("on(-1)", x.on(-1), -2);
     Due.due("on(3)", x.on(3), 0);
-    Due.due("newest(3, 0)", x.newest(3, 0), -1);
+    Due.due("newest(3, 0), nothing there", x.newest(3, 0), -1);
     Due.due("newest(3, 1)", x.newest(3, 1), -1);
     Due.due("newest(3, 2)", x.newest(3, 2), -100);
     x.write(0, 3, 30);
+    Due.due("newest(3, 0), the first alone", x.newest(3, 0), 0);
+    Due.due("newest(3, 1), the first alone", x.newest(3, 1), 30);
+    Due.due("newest(3, 2), the first alone", x.newest(3, 2), 0);
     x.set(0, 0, 10);
     x.write(2, 3, 32);
     Due.due("on(3)", x.on(3), 5);

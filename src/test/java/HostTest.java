@@ -38,10 +38,11 @@ public final class HostTest {
     Due.due("plan(1, 0)", x.plan(1, 0), -1);
     Due.due("sheet(1, 1, 4)", x.sheet(1, 1, 4), 1);
     Due.due("plan(1, 0)", x.plan(1, 0), 0);
-    Due.sheet(x, 1, 1, 0, 1, 0, 1);
-    x.sheet(1, 1, 2);
+    Due.sheet(x, 1, 1, 1, 2, 3, 4, 5, 6, 7, 8);
     x.sheet(1, 1, 4);
-    Due.due("plan(1, 0)", x.plan(1, 0), 0);
+    x.sheet(1, 1, 8);
+    for (int file = 0; file < 8; file++) x.write(0, file, 0);
+    Due.due("tells(1, 0, 1, 0), all 0", x.tells(1, 0, 1, 0), 0);
   }
 
   private static void cell() {

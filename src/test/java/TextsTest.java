@@ -74,6 +74,10 @@ public final class TextsTest {
     text("takes her;", -106);
     text("takes taking;", -106);
     text("takes Here;", -106);
+    text("takes filez;", -106);
+    text("takes afile;", -106);
+    text("takes 1;goes 1;worth 1;!", -123);
+    text("takes 1;goes 1;worth 1; 12345", -124);
     text("takes 1 ! 2;", -108);
     text("takes 1 > 2;", -108);
     text("takes 1;\tgoes 1;", -108);
@@ -178,6 +182,17 @@ public final class TextsTest {
     Due.text(x, "takes 1;goes 1;worth file-5;");
     x.force(2);
     Due.due("all(8): -1 is bound to 0", x.all(8), 0);
+    // They are so behind a copy, too, by which they were told otherwise.
+    x.disk(0, 0);
+    x.write(1, 4, 1);
+    Due.text(x, "takes same = 1 and here = there;goes 50+here+there*2+same*3+file;worth 9+here+there*2+same*3+number;");
+    x.force(3);
+    Due.due("copies(0, 1)", x.copies(0, 1), 0);
+    x.write(0, 4, 1);
+    Due.due("copies(0, 1)", x.copies(0, 1), 1);
+    Due.due("told(0, 8)", x.told(0, 8), 50);
+    x.copies(0, 1);
+    Due.due("all(8)", x.all(8), 9);
   }
 
   /** TEXT 0 is: takes here < there ; goes 5 ; worth 1 + file ; */
