@@ -95,6 +95,12 @@ public final class BestTest {
     y.disk(2, 0);
     y.write(3, 3, 1);
     Due.due("fewest(2), four apart", y.fewest(2), -1);
+    for (int i = 4; i < 6; i++) {
+      y.disk(2, 0);
+      y.write(i, i, 1);
+    }
+    Due.due("fewest(2), six apart", y.fewest(2), -1);
+    Due.due("fewest(1), six apart", y.fewest(1), 0);
   }
 
   private static void fewestWithoutWay() {

@@ -4,6 +4,7 @@ public final class TextsTest {
     feed();
     faults();
     faultsByOpen();
+    everyByte();
     values();
     names();
     first();
@@ -114,6 +115,22 @@ public final class TextsTest {
     text("takes not not not not not 1;goes not not not not not 1;worth -----1;", 1);
   }
 
+  /** Each byte where an E begins, where one can end, and at the end of all. */
+  private static void everyByte() {
+    for (int b = 0; b < 256; b++) {
+      char c = (char) b;
+      boolean blank = b == 32 || b == 10;
+      boolean digit = b >= '0' && b <= '9';
+      boolean join = "+-*<=".indexOf(c) >= 0;
+      // "takes " and 1 behind it: a - and a digit go on with it, a ( till the ; that has none.
+      int first = blank || digit || c == '-' ? 1 : c == '(' ? -108 : -106;
+      text("takes " + c + "1;goes 1;worth 1;", first);
+      int second = digit || join ? 1 : blank || c == ';' ? -108 : -107;
+      text("takes 1" + c + "1;goes 1;worth 1;", second);
+      text("takes 1;goes 1;worth 1;" + c, blank ? 1 : -123);
+    }
+  }
+
   private static void values() {
     goes("7", 7);
     goes("0042", 42);
@@ -122,6 +139,8 @@ public final class TextsTest {
     goes("0-1", 0);
     goes("2+3*4", 14);
     goes("(2+3)*4", 20);
+    goes("50-2*3", 44);
+    goes("2*3-5", 1);
     goes("20-5-3", 12);
     goes("20-(5-3)", 18);
     goes("-3+10", 7);
