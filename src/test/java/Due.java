@@ -2,13 +2,19 @@
 final class Due {
   private static int wrong = 0;
   private static int asked = 0;
+  private static String sentence = "";
 
   static void due(String call, long got, long want) {
     asked++;
     if (got != want) {
       wrong++;
-      System.out.println(call + " answered " + got + ", due is " + want);
+      System.out.println(sentence + call + " answered " + got + ", due is " + want);
     }
+  }
+
+  /** From here on it is this sentence of the document that is asked for. */
+  static void of(String words) {
+    sentence = "\"" + words + "\": ";
   }
 
   static void end() {
