@@ -140,12 +140,15 @@ public final class FaceTest {
   }
 
   private static void source(String text) {
-    none("words", all(text, "\\b(throw|throws|try|catch|synchronized|assert|yield|package|native|volatile|transient|var|Object|Thread|Random|static\\s*\\{)\\b?"));
-    none("signs", all(text, "->|::|@|\\.\\.\\."));
-    none("imports", all(text, "(?m)^import (?!java\\.util\\.Arrays;)[^\n]*"));
+    none("words", all(text, "\\b(throw|throws|try|catch|synchronized|assert|package|native|volatile|transient|Object|Thread|Random)\\b"));
+    none("static initialiser blocks", all(text, "\\bstatic\\s*\\{"));
+    none("method references, parameters without a number", all(text, "::|\\.\\.\\."));
+    none("lambdas", all(text, "(?m)^(?!\\s*(case\\b|default\\b)).*->.*"));
+    none("imports", all(text, "(?m)^import (?!java\\.util\\.(Arrays|ArrayList|List|Iterator);)[^\n]*"));
     none("of System", all(text, "System\\.(?!arraycopy\\b)\\w+"));
     none("of Arrays", all(text, "Arrays\\.(?!(fill|copyOf|copyOfRange)\\b|;)\\w+"));
-    none("of Math, Integer, Long", all(text, "\\b(Math|Integer|Long)\\.(?!(min|max|abs|compare|bitCount|floorDiv|floorMod)\\b)\\w+"));
+    none("of Math, Integer, Long", all(text, "\\b(Math|Integer|Long)\\.(?!(min|max|abs|compare|sum|signum|bitCount|floorDiv|floorMod|"
+        + "rotateLeft|rotateRight|numberOfTrailingZeros|numberOfLeadingZeros|MIN_VALUE|MAX_VALUE)\\b)\\w+"));
     none("joined by +", all(text, "\"\\s*\\+|\\+\\s*\""));
     none("signs beyond 127", all(text, "[^\\x00-\\x7f]"));
     none("methods of more than sixty lines", longMethods(text));
